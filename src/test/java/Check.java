@@ -1,0 +1,68 @@
+/** What the tests of the project share: they count and print every answer that is not due. */
+final class Check {
+    interface Call {
+        long answer();
+    }
+
+    private static int checked = 0;
+    private static int wrong = 0;
+
+    private Check() {
+    }
+
+    static long flag(boolean b) {
+        return b ? 1 : 0;
+    }
+
+    static void same(String what, long got, long due) {
+        checked++;
+        if (got != due) {
+            wrong++;
+            System.out.println(what + " answered " + got + ", due is " + due);
+        }
+    }
+
+    static void same(String what, boolean got, boolean due) {
+        same(what, flag(got), flag(due));
+    }
+
+    static void sameText(String what, String got, String due) {
+        checked++;
+        if (!got.equals(due)) {
+            wrong++;
+            System.out.println(what + " answered " + got + ", due is " + due);
+        }
+    }
+
+    /** What a call answers, or the name of what it throws, whatever that is. */
+    static String outcome(Call call) {
+        try {
+            return Long.toString(call.answer());
+        } catch (Throwable e) {
+            return "throws." + e.getClass().getSimpleName();
+        }
+    }
+
+    static void place(String what, Call call) {
+        sameText(what, outcome(call), "throws.IndexOutOfBoundsException");
+    }
+
+    static void state(String what, Call call) {
+        sameText(what, outcome(call), "throws.IllegalStateException");
+    }
+
+    static void argument(String what, Call call) {
+        sameText(what, outcome(call), "throws.IllegalArgumentException");
+    }
+
+    static int wrongOnes() {
+        return wrong;
+    }
+
+    static void end() {
+        System.out.println(checked + " answers checked, " + wrong + " wrong");
+        if (wrong != 0) {
+            System.exit(1);
+        }
+    }
+}
