@@ -535,10 +535,8 @@ public final class ColourParts {
         void findBest() {
             int met = 0;
             for (int p = 0; p < count; p++) {
-                if (told[p] >= colours) {
-                    return;
-                }
-                if (told[p] >= 0) {
+                // A piece told a colour that there is not is a dead end from the start.
+                if (told[p] >= 0 && told[p] < colours) {
                     holders[told[p]] |= 1 << p;
                     met |= 1 << told[p];
                 }

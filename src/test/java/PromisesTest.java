@@ -432,14 +432,18 @@ public final class PromisesTest {
         Check.state("a fourth one", () -> Check.flag(x.stitch(0, 6, true)));
         Check.state("a fourth one not within", () -> Check.flag(x.stitch(0, 66, true)));
         Check.state("a fourth one the other way", () -> Check.flag(x.stitch(0, 1, false)));
-        Check.same("one of three once more", x.stitch(0, 1, true), false);
+        for (long at : new long[] {1, 5, 9}) {
+            Check.same("one of three once more", x.stitch(0, at, true), false);
+        }
 
         ColourParts y = new ColourParts(1);
         box(y, 0, 0, 3, 9);
         Check.same("lying", y.stitch(0, 8, false), true);
         Check.same("lying once more", y.stitch(0, 8, false), false);
         Check.argument("standing among lying ones", () -> Check.flag(y.stitch(0, 2, true)));
-        Check.argument("lying, not within", () -> Check.flag(y.stitch(0, 9, false)));
+        for (long at : new long[] {0, 9, -1, 10}) {
+            Check.argument("lying, not within", () -> Check.flag(y.stitch(0, at, false)));
+        }
         box(y, 0, 9, 1, 9);
         y.pre(1, 0);
         y.run(2, 9);
@@ -449,6 +453,7 @@ public final class PromisesTest {
         y.run(2, 9);
         colours(y, 0, 0, 1);
         Check.same("the upper piece is of 3 by 1", y.balance(1, 1), 3);
+        Check.same("the lower piece is of 3 by 8", y.balance(0, 1), 24);
     }
 
     private static void promise10Refused() {
