@@ -4,10 +4,20 @@ final class Check {
         long answer();
     }
 
+    static final String PLACE = "throws.IndexOutOfBoundsException";
+    static final String STATE = "throws.IllegalStateException";
+    static final String ARGUMENT = "throws.IllegalArgumentException";
+
     private static int checked = 0;
     private static int wrong = 0;
+    private static String test = "";
 
     private Check() {
+    }
+
+    /** From here on each wrong answer is told with this test's name. */
+    static void begin(String name) {
+        test = name + ": ";
     }
 
     static long flag(boolean b) {
@@ -17,8 +27,7 @@ final class Check {
     static void same(String what, long got, long due) {
         checked++;
         if (got != due) {
-            wrong++;
-            System.out.println(what + " answered " + got + ", due is " + due);
+            wrong(what, Long.toString(got), Long.toString(due));
         }
     }
 
@@ -29,9 +38,13 @@ final class Check {
     static void sameText(String what, String got, String due) {
         checked++;
         if (!got.equals(due)) {
-            wrong++;
-            System.out.println(what + " answered " + got + ", due is " + due);
+            wrong(what, got, due);
         }
+    }
+
+    private static void wrong(String what, String got, String due) {
+        wrong++;
+        System.out.println(test + what + " answered " + got + ", due is " + due);
     }
 
     /** What a call answers, or the name of what it throws, whatever that is. */
@@ -44,15 +57,15 @@ final class Check {
     }
 
     static void place(String what, Call call) {
-        sameText(what, outcome(call), "throws.IndexOutOfBoundsException");
+        sameText(what, outcome(call), PLACE);
     }
 
     static void state(String what, Call call) {
-        sameText(what, outcome(call), "throws.IllegalStateException");
+        sameText(what, outcome(call), STATE);
     }
 
     static void argument(String what, Call call) {
-        sameText(what, outcome(call), "throws.IllegalArgumentException");
+        sameText(what, outcome(call), ARGUMENT);
     }
 
     static int wrongOnes() {

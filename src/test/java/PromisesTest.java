@@ -1,7 +1,5 @@
 /** A test for each promise of the document: ordinary inputs, its edges, wrong inputs. */
-public final class PromisesTest {
-    private static final int NONE = ColourParts.NONE;
-
+public final class PromisesTest extends Layout {
     public static void main(String[] args) {
         promise1();
         promise1Distance();
@@ -27,52 +25,6 @@ public final class PromisesTest {
         promise16();
         openShapes();
         Check.end();
-    }
-
-    private static int box(ColourParts x, long ax, long ay, long bx, long by) {
-        int s = x.shape();
-        more(x, s, ax, ay, bx, by);
-        return s;
-    }
-
-    private static void more(ColourParts x, int s, long ax, long ay, long bx, long by) {
-        Check.same("first corner", x.corner(s, ax, ay), false);
-        Check.same("second corner", x.corner(s, bx, by), true);
-    }
-
-    /** So many unit boxes, each near the next alone; with distance 1. */
-    private static ColourParts row(int many) {
-        ColourParts x = new ColourParts(1);
-        for (int i = 0; i < many; i++) {
-            box(x, i, 0, i + 1, 1);
-        }
-        return x;
-    }
-
-    /** A bar of 30 by 2 and four teeth on it, told 0, 1, 0, 1. */
-    private static ColourParts comb() {
-        ColourParts x = new ColourParts(1);
-        box(x, 0, 0, 30, 2);
-        for (int k = 0; k < 4; k++) {
-            int s = box(x, 8 * k, 2, 8 * k + 4, 3);
-            x.pre(s, k % 2);
-        }
-        return x;
-    }
-
-    private static void colours(ColourParts x, int... due) {
-        for (int s = 0; s < due.length; s++) {
-            Check.same("colour(" + s + ")", x.colour(s), due[s]);
-        }
-    }
-
-    private static void ring(ColourParts x, int... due) {
-        Check.same("length()", x.length(), due.length);
-        for (int k = 0; k < due.length; k++) {
-            Check.same("ring(" + k + ")", x.ring(k), due[k]);
-        }
-        Check.place("ring behind the last", () -> x.ring(due.length));
-        Check.place("ring(-1)", () -> x.ring(-1));
     }
 
     private static void promise1() {

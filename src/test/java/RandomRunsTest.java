@@ -1,16 +1,24 @@
+import java.util.ArrayList;
+import java.util.List;
 import java.util.Random;
 
-/** Runs of calls, always the same ones, each answer against that of the plain model. */
+/**
+ * Runs of calls, always the same ones, each answer against that of the plain model. An object is
+ * good for 512 calls, so whenever all is asked that goes to a new one that was told the same.
+ */
 public final class RandomRunsTest {
     private static final int RUNS = 2000;
+    private static final int MOST_CALLS = 512;
+    private static final int CALLS_TO_ASK_ALL = 4 + 15 * 20;
     /** More pieces than this make the plain model slow with three and four colours. */
     private static final int[] MOST_FOR = {0, 0, 12, 9, 8};
 
     private final Random chance;
+    private final long distance;
     private final ColourParts one;
+    private final List<Layout.Use> changes = new ArrayList<>();
     private final PlainModel plain;
     private final int span;
-    private final String name;
     private int shapes = 0;
     private int pieces = 0;
     private static final int[] ringsSeen = new int[13];
@@ -20,11 +28,11 @@ public final class RandomRunsTest {
     private RandomRunsTest(int seed) {
         // Small seeds next to each other would begin with nearly the same numbers.
         chance = new Random(seed * 0x9E3779B97F4A7C15L);
-        long distance = chance.nextInt(8) == 0 ? chance.nextInt(3) - 1 : 1 + chance.nextInt(5);
+        distance = chance.nextInt(8) == 0 ? chance.nextInt(3) - 1 : 1 + chance.nextInt(5);
         one = new ColourParts(distance);
         plain = new PlainModel(distance);
         span = 6 + chance.nextInt(20);
-        name = "seed " + seed + " distance " + distance + ": ";
+        Check.begin("seed " + seed + " distance " + distance);
     }
 
     public static void main(String[] args) {
@@ -37,6 +45,7 @@ public final class RandomRunsTest {
                 default: run.chain();
             }
         }
+        Check.begin("of all runs");
         Check.same("rings of 3 seen", ringsSeen[3] > 50, true);
         Check.same("rings of 5 seen", ringsSeen[5] > 50, true);
         Check.same("rings of 7 seen", ringsSeen[7] > 5, true);
@@ -51,17 +60,26 @@ public final class RandomRunsTest {
         Check.end();
     }
 
-    private long both(String call, Check.Call a, Check.Call b) {
+    private static void both(String call, Check.Call a, Check.Call b) {
+        Check.sameText(call, Check.outcome(a), Check.outcome(b));
+    }
+
+    /** A call that may change something; what it answers, or the least number if it throws. */
+    private long change(String call, Layout.Use a, Check.Call b) {
+        if (changes.size() + CALLS_TO_ASK_ALL >= MOST_CALLS) {
+            return Long.MIN_VALUE;
+        }
+        changes.add(a);
         String due = Check.outcome(b);
-        Check.sameText(name + call, Check.outcome(a), due);
+        Check.sameText(call, Check.outcome(() -> a.of(one)), due);
         return due.startsWith("throws") ? Long.MIN_VALUE : Long.parseLong(due);
     }
 
     /** Calls of any kind in any order, many of them wrong ones. */
     private void disorder() {
-        for (int i = 0; i < 400; i++) {
+        for (int i = 0; i < 220; i++) {
             anyCall();
-            if (i % 20 == 0) {
+            if (i % 15 == 0) {
                 askAll();
             }
         }
@@ -200,33 +218,33 @@ public final class RandomRunsTest {
     }
 
     private void shape() {
-        if (both("shape()", one::shape, plain::shape) >= 0) {
+        if (change("shape()", x -> x.shape(), plain::shape) >= 0) {
             shapes++;
             pieces++;
         }
     }
 
-    private void corner(int s, long x, long y) {
-        both("corner(" + s + ", " + x + ", " + y + ")",
-            () -> Check.flag(one.corner(s, x, y)), () -> Check.flag(plain.corner(s, x, y)));
+    private void corner(int s, long px, long py) {
+        change("corner(" + s + ", " + px + ", " + py + ")",
+            x -> Check.flag(x.corner(s, px, py)), () -> Check.flag(plain.corner(s, px, py)));
     }
 
     private void stitch(int s, long at, boolean across) {
-        if (both("stitch(" + s + ", " + at + ", " + across + ")",
-                () -> Check.flag(one.stitch(s, at, across)), () -> Check.flag(plain.stitch(s, at, across))) == 1) {
+        if (change("stitch(" + s + ", " + at + ", " + across + ")",
+                x -> Check.flag(x.stitch(s, at, across)), () -> Check.flag(plain.stitch(s, at, across))) == 1) {
             pieces++;
         }
     }
 
     private void pre(int s, int colour) {
-        both("pre(" + s + ", " + colour + ")",
-            () -> Check.flag(one.pre(s, colour)), () -> Check.flag(plain.pre(s, colour)));
+        change("pre(" + s + ", " + colour + ")",
+            x -> Check.flag(x.pre(s, colour)), () -> Check.flag(plain.pre(s, colour)));
     }
 
     private void run(int wished, long steps) {
         int colours = wished >= 2 && wished <= 4 && pieces > MOST_FOR[wished] ? 2 : wished;
-        long answer = both("run(" + colours + ", " + steps + ")",
-            () -> one.run(colours, steps), () -> plain.run(colours, steps));
+        long answer = change("run(" + colours + ", " + steps + ")",
+            x -> x.run(colours, steps), () -> plain.run(colours, steps));
         if (answer >= 0) {
             answersSeen[(int) answer]++;
         }
@@ -239,27 +257,39 @@ public final class RandomRunsTest {
     }
 
     private void clear() {
-        one.clear();
-        plain.clear();
-        shapes = 0;
-        pieces = 0;
+        long answer = change("clear()", RandomRunsTest::cleared, () -> {
+            plain.clear();
+            return 0;
+        });
+        if (answer == 0) {
+            shapes = 0;
+            pieces = 0;
+        }
+    }
+
+    private static long cleared(ColourParts x) {
+        x.clear();
+        return 0;
     }
 
     private void askAll() {
-        both("near()", one::near, plain::near);
-        both("length()", one::length, plain::length);
-        both("stitches()", one::stitches, plain::stitches);
-        both("closed()", () -> Check.flag(one.closed()), () -> Check.flag(plain.closed()));
+        ColourParts x = new ColourParts(distance);
+        for (Layout.Use one : changes) {
+            Check.outcome(() -> one.of(x));
+        }
+        both("near()", x::near, plain::near);
+        both("length()", x::length, plain::length);
+        both("stitches()", x::stitches, plain::stitches);
+        both("closed()", () -> Check.flag(x.closed()), () -> Check.flag(plain.closed()));
         for (int i = -1; i <= 13; i++) {
             int k = i;
-            both("colour(" + k + ")", () -> one.colour(k), () -> plain.colour(k));
-            both("ring(" + k + ")", () -> one.ring(k), () -> plain.ring(k));
+            both("colour(" + k + ")", () -> x.colour(k), () -> plain.colour(k));
+            both("ring(" + k + ")", () -> x.ring(k), () -> plain.ring(k));
             for (int j = -1; j <= 4; j++) {
                 int m = j;
-                both("used(" + k + ", " + m + ")",
-                    () -> Check.flag(one.used(k, m)), () -> Check.flag(plain.used(k, m)));
-                both("pair(" + k + ", " + m + ")", () -> one.pair(k, m), () -> plain.pair(k, m));
-                both("balance(" + k + ", " + m + ")", () -> one.balance(k, m), () -> plain.balance(k, m));
+                both("used(" + k + ", " + m + ")", () -> Check.flag(x.used(k, m)), () -> Check.flag(plain.used(k, m)));
+                both("pair(" + k + ", " + m + ")", () -> x.pair(k, m), () -> plain.pair(k, m));
+                both("balance(" + k + ", " + m + ")", () -> x.balance(k, m), () -> plain.balance(k, m));
             }
         }
     }
