@@ -93,6 +93,18 @@ abstract class Layout {
         return x;
     }
 
+    /** A bar, a bridge over its middle, and a chain of eight from its end to its beginning. */
+    static ColourParts bridge() {
+        ColourParts x = new ColourParts(1);
+        box(x, 0, 0, 20, 0);
+        box(x, 9, 0, 11, 0);
+        long[][] way = {{20, 0}, {20, 5}, {20, 10}, {15, 10}, {10, 10}, {5, 10}, {0, 10}, {0, 5}, {0, 0}};
+        for (int k = 0; k < 8; k++) {
+            box(x, way[k][0], way[k][1], way[k + 1][0], way[k + 1][1]);
+        }
+        return x;
+    }
+
     static void standing(ColourParts x, int s, long... places) {
         for (long at : places) {
             Check.same("stitch(" + s + ", " + at + ", true)", x.stitch(s, at, true), true);

@@ -1,4 +1,4 @@
-/** Promise 6, colour: "The colour of a shape's first piece in the colouring kept; NONE without one, or when it was not there." */
+/** Promise 6, colour: that of a shape's first piece in the colouring kept; "NONE without one, or when it was not there." */
 public final class Promise06Test extends Layout {
     public static void main(String[] args) {
         Sentences.check(Promise06Test.class, "promise06");

@@ -1,4 +1,4 @@
-/** Promise 7, ring: "The shape of piece k of the odd ring of the latest run() that was not 2. IOOBE: it has no such place." */
+/** Promise 7, ring: "The shape of piece k of the odd ring of the latest run() that was not 2", and places it has not. */
 public final class Promise07Test extends Layout {
     private static final int[] FIVE = {0, 2, 2, 4, 4, 1, 1, 3, 3, 0};
 

@@ -99,7 +99,8 @@ public final class Promise10Test extends Layout {
 
     static void promise10_noSuchShape() {
         for (int s : new int[] {-1, 1, 2, 10, LEAST, MOST}) {
-            refused(Check.PLACE, "stitch(" + s + ", 5, true)", 1, Promise10Test::square, x -> Check.flag(x.stitch(s, 5, true)));
+            refused(Check.PLACE, "stitch(" + s + ", 5, true)", 1, Promise10Test::square,
+                x -> Check.flag(x.stitch(s, 5, true)));
             refused(Check.PLACE, "stitch(" + s + ", 0, false)", 1, Promise10Test::square,
                 x -> Check.flag(x.stitch(s, 0, false)));
         }

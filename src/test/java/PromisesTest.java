@@ -313,15 +313,8 @@ public final class PromisesTest extends Layout {
         ring(y, 0, 1, 3);
     }
 
-    /** A bar cut once, a bridge over the cut, and a chain of eight from its end to its beginning. */
     private static void promise8LongestRing() {
-        ColourParts x = new ColourParts(1);
-        box(x, 0, 0, 20, 0);
-        box(x, 9, 0, 11, 0);
-        long[][] way = {{20, 0}, {20, 5}, {20, 10}, {15, 10}, {10, 10}, {5, 10}, {0, 10}, {0, 5}, {0, 0}};
-        for (int k = 0; k < 8; k++) {
-            box(x, way[k][0], way[k][1], way[k + 1][0], way[k + 1][1]);
-        }
+        ColourParts x = bridge();
         Check.same("none", x.run(2, 20), 1);
         ring(x, 0, 2, 3, 4, 5, 6, 7, 8, 9);
         x.stitch(0, 10, true);

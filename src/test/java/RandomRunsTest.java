@@ -72,7 +72,7 @@ public final class RandomRunsTest {
         changes.add(a);
         String due = Check.outcome(b);
         Check.sameText(call, Check.outcome(() -> a.of(one)), due);
-        return due.startsWith("throws") ? Long.MIN_VALUE : Long.parseLong(due);
+        return due.contains("throws") ? Long.MIN_VALUE : Long.parseLong(due);
     }
 
     /** Calls of any kind in any order, many of them wrong ones. */

@@ -39,13 +39,7 @@ public final class TermsRingTest extends Layout {
 
     /** One shape is cut, so ten shapes make a ring of eleven pieces: the longest there can be. */
     static void terms_ring_oddInNumber_11Pieces() {
-        ColourParts x = new ColourParts(1);
-        box(x, 0, 0, 20, 0);
-        box(x, 9, 0, 11, 0);
-        long[][] way = {{20, 0}, {20, 5}, {20, 10}, {15, 10}, {10, 10}, {5, 10}, {0, 10}, {0, 5}, {0, 0}};
-        for (int k = 0; k < 8; k++) {
-            box(x, way[k][0], way[k][1], way[k + 1][0], way[k + 1][1]);
-        }
+        ColourParts x = bridge();
         standing(x, 0, 10);
         noColouring(x, 0, 1, 0, 2, 3, 4, 5, 6, 7, 8, 9);
         standing(x, 0, 15);
