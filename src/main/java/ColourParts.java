@@ -564,7 +564,7 @@ public final class ColourParts {
                 if (canHave(p, c) && !(isNew && newOneTried)) {
                     tryColour(p, c, usedSoFar, met | 1 << c);
                 }
-                newOneTried |= isNew;
+                newOneTried = newOneTried || isNew;
             }
         }
 

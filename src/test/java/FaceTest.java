@@ -43,6 +43,7 @@ public final class FaceTest {
 
     public static void main(String[] args) throws IOException {
         face();
+        wordForWord();
         nested();
         words(Files.readString(Path.of("src/main/java/ColourParts.java")));
         Check.end();
@@ -68,6 +69,20 @@ public final class FaceTest {
         Constructor<?>[] makers = ColourParts.class.getDeclaredConstructors();
         Check.same("one constructor", makers.length, 1);
         Check.sameText("the constructor", makers[0].toString(), "public ColourParts(long)");
+    }
+
+    /** Each line of the document's face stands in the class; a method's with its body behind it. */
+    private static void wordForWord() {
+        String code = Source.plain(Source.whole());
+        int met = 0;
+        for (String line : Source.fenced(Source.text("../shared/DOC.md"))) {
+            String word = Source.plain(line);
+            boolean isMethod = word.contains("(");
+            met += isMethod ? 1 : 0;
+            String due = isMethod ? word.replace(";", " {") : word;
+            Check.same("the class has: " + due, code.contains(due), true);
+        }
+        Check.same("the constructor and all methods are met", met, FACE.length + 1);
     }
 
     private static String told(Method m) {
